@@ -72,29 +72,14 @@ public final class FilterPile {
         if (!bench.has(i) || what < 0 || what > 2) {
             return NONE;
         }
-        int code = bench.pile[i];
-        int kind = kindOf(code);
-        int angle = angleOf(code);
-        int figure = figureOf(code);
-        if (what == 0) {
-            if (!isKind(v)) {
-                return BAD;
-            }
-            bench.pile[i] = codeOf(v, angle, figure);
-            return kind;
-        }
-        if (what == 1) {
-            if (!isAngle(v)) {
-                return BAD;
-            }
-            bench.pile[i] = codeOf(kind, v, figure);
-            return angle;
-        }
-        if (!isFigure(v)) {
+        int numbers = what == 0 ? KINDS : what == 1 ? ANGLES : FIGURES;
+        if (v < 0 || v >= numbers) {
             return BAD;
         }
-        bench.pile[i] = codeOf(kind, angle, v);
-        return figure;
+        int weight = what == 0 ? codeOf(1, 0, 0) : what == 1 ? codeOf(0, 1, 0) : codeOf(0, 0, 1);
+        int was = of(i, what);
+        bench.pile[i] += weight * (v - was);
+        return was;
     }
 
     public int turn(int i, int by) {

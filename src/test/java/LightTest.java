@@ -106,6 +106,9 @@ public final class LightTest {
         Due.due("12 left", x.left(-1, 0), VOID);
         Due.due("12 left", x.left(0, 2), VOID);
         Due.due("12 left", x.left(0, -1), VOID);
+        x.lamp(1, 0, 0, 0);
+        Due.due("12 left", x.left(1, 0), 3);
+        Due.due("12 left", x.left(1, 1), 16);
         x.lamp(0, 0, 0, 0);
         Due.due("12 left", x.left(0, 0), VOID);
         Due.due("12 left", x.left(0, 1), VOID);
@@ -179,6 +182,9 @@ public final class LightTest {
         x = bench(517, -219, -47, -446, "s1,6;s2,13;f15;s1,14;f15;s3,11;w2,13;s1,11");
         Due.dueLight("13 all three", x, 8, 4000422869L, -2971209600L, -578228365, 1899085260, 31);
         dueOver("13 all three", x, 8, 4);
+        x = bench(867, -213, 35, -819, "s3,13;f11;s3,6;s2,14;s0,11;f11;f15;r9");
+        Due.dueLight("13 all three, but no two with Q", x, 8, 6103000832L, -240510600, -2883831555L, -1284323040, 30);
+        dueOver("13 all three, but no two with Q", x, 8, 4);
         x = bench(999, 0, 0, 0, "4(2(s0,14))");
         Due.due("13 divided by 999 and more", x.sort(8), 5);
         Due.due("13 divided", x.count(2), 0);
@@ -243,6 +249,9 @@ public final class LightTest {
         x.clear();
         Due.due("16 none", x.orderLight(0, 0), 16);
         Due.due("16 none", x.orderLight(1, 1), 15);
+        Due.read(x, "4(g);y8");
+        Due.due("16 five", x.orderLight(0, 0), 16);
+        Due.due("16 five", x.orderLight(1, 4), 1);
         Due.read(x, "3(g;g)");
         Due.due("16 six", x.orderLight(0, 0), VOID);
     }

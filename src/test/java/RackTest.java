@@ -81,6 +81,9 @@ public final class RackTest {
         Due.due("40 fetch", x.fetch(0, 3), 0);
         x.turn(0, 1);
         Due.due("40 its own", x.rack(0, 3), 2316);
+        x.add(0, 0, 0);
+        x.store(2, 0, 1);
+        Due.due("40 CODE 0 is no nothing", x.fetch(2, 0), 2);
     }
 
     private static void rack() {

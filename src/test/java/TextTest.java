@@ -95,6 +95,8 @@ public final class TextTest {
         dueFault("y-1", 1);
         dueFault("y/", 1);
         dueFault("y:", 1);
+        dueFault("y0:", 2);
+        dueFault("y1/", 2);
         dueFault("y17", 2);
         dueFault("y20", 2);
         dueFault("y99", 2);
