@@ -35,6 +35,7 @@ public final class EdgesLightTest {
         overOfVV();
         overOfTwo();
         overOfThree();
+        overOfWhatIsDivided();
         overChangesWhyAlone();
         matrixRefused();
         matrixNumbersByThemselves();
@@ -207,6 +208,7 @@ public final class EdgesLightTest {
 
     private static void leftAtTheEnds() {
         dueLeft("behind none is 1 by 1", new FilterPile(), 0, 1, 1);
+        dueLeft("of the least LAMP that is not dark", Probe.bench(1, 0, 0, 0, "y3"), 1, 3, 16);
         dueLeft("of all is 1 by 1", Probe.bench(7, 7, 0, 0, "p0;w1,2;r1"), 3, 1, 1);
         dueLeft("of the dark is 0 by 1", Probe.bench(7, 0, 0, 0, "p0;y3;p2"), 3, 0, 1);
         dueLeft("in lowest terms", Probe.bench(12, 0, 0, 0, "y6"), 1, 3, 8);
@@ -405,6 +407,25 @@ public final class EdgesLightTest {
         FilterPile x = bright("QQ, UU and VV", "f7;f12;f11;f10;s1,14;s0,10;s2,11;s1,13", lamp(736, 193, -2, 311),
             3303242915L, 639933405, 2967852856L, 77588280, 28);
         dueOver("QQ and UU are a long by a 1000th, with VV they are none", x, 4);
+    }
+
+    /** A GREY behind makes all four three times what they were, which is divided out again. */
+    private static void overOfWhatIsDivided() {
+        FilterPile x = bright("I is thrice the root", "f9;f3;s1,7;f9;w2,3;f13;s2,11;y3", lamp(682, 43, -361, 0),
+            3 * ROOT, 3L * 1172591083, 0, 3L * 1048932612, 29);
+        dueDegree("II is a long just so, divided", x, 8, 1172591083L * 1172591083L + 1048932612L * 1048932612L, SQUARE);
+        x = bright("Q is thrice the root", "s0,11;f3;f7;s3,9;f3;s0,14;s2,11;y3", lamp(754, 163, -286, 0),
+            3 * 4540434643L, 3 * ROOT, -3L * 392168304, 0, 33);
+        dueOver("QQ is a long just so, divided", x, 3);
+        x = bright("Q is more than thrice the root", "s1,14;f7;f13;f1;f3;s2,6;f9;y3", lamp(435, 364, 236, 0),
+            3 * 8973080768L, 3 * (ROOT + 1), 3L * 12882051, 0, 32);
+        dueOver("QQ is no long just so, divided", x, 0);
+        x = bright("U is thrice the root", "s0,11;s2,13;f3;f1;s1,9;s0,14;s1,14;y3", lamp(943, 259, -573, 0),
+            3 * 3927555883L, 3L * 1129606692, 3 * ROOT, 0, 34);
+        dueOver("UU is a long just so, divided", x, 3);
+        x = bright("U is more than thrice the root", "f11;s2,14;f7;f7;f13;f4;s3,6;y3", lamp(995, -653, 500, 0),
+            3 * 5005611500L, -3L * 110187623, 3 * (ROOT + 1), 0, 30);
+        dueOver("UU is no long just so, divided", x, 1);
     }
 
     private static void overChangesWhyAlone() {

@@ -13,6 +13,7 @@ public final class EdgesOrderTest {
         orderOfLikeOnesTheFirst();
         orderAsNumbers();
         orderUnlikeAndCommon();
+        orderAndAngleAskedAnew();
         orderLightAtTheEnds();
         orderLightRefused();
         tradeWithItself();
@@ -104,8 +105,27 @@ public final class EdgesOrderTest {
         // One LIGHT with another E is another LIGHT: 16 and 16 over 2.
         x = bench(16, 16, 0, 0, "r1;p0");
         Due.due("15 UNLIKE by E alone", x.order(2), 2);
-        x = bench(0, 0, 0, 0, "p3;s0,6;r14;p0;f1");
-        dueOrder("all dark", x, 12345, 12345, 1, 120);
+        // Behind a FROST of 0 there is I alone: 8 if one is ahead of p0 too, else 12; with p0 last it is 8, 8.
+        dueOrder("UNLIKE by I alone", bench(16, 8, 0, 0, "f0;p0;f0"), 123, 213, 3, 2);
+        dueOrder("all dark", bench(0, 0, 0, 0, "p3;s0,6;r14;p0;f1"), 12345, 12345, 1, 120);
+    }
+
+    /** Nothing is left of what was asked before. */
+    private static void orderAndAngleAskedAnew() {
+        FilterPile x = bench(30, 6, 13, -2, "p3;s0,6;r14;p0;f1");
+        Due.due("15 UNLIKE of many", x.order(2), 78);
+        dueAngle("asked behind order()", x, 2, 0, 0, 1);
+        Due.read(x, "g;p0");
+        dueOrder("asked behind others", x, 12, 12, 1, 2);
+        dueAngle("asked behind others", x, 1, 1, 3, 4);
+        x.lamp(16, 0, 0, 0);
+        dueAngle("asked behind another LAMP", x, 1, 0, 0, 4);
+        x.lamp(0, 0, 0, 0);
+        dueAngle("asked in the dark", x, 1, 0, 0, 1);
+        x.lamp(1000, 0, 0, 0);
+        dueOrder("asked in the light", x, 12, 12, 1, 2);
+        Due.due("16 asked in the light", x.orderLight(0, 0), 500);
+        Due.due("16 asked in the light", x.orderLight(1, 0), 500);
     }
 
     // ---- promise 16

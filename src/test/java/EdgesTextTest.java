@@ -191,8 +191,10 @@ public final class EdgesTextTest {
             dueFault("a number below 0", start + "-1", start.length());
             dueFault("a sign just below the figures", start + "/", start.length());
             dueFault("a sign just above the figures", start + ":", start.length());
-            dueFault("a second sign just below the figures", start + "1/", start.length() + 1);
-            dueFault("a second sign just above the figures", start + "1:", start.length() + 1);
+            for (char first : new char[] {'0', '1', '9'}) {
+                dueFault("a second sign just below the figures", start + first + "/", start.length() + 1);
+                dueFault("a second sign just above the figures", start + first + ":", start.length() + 1);
+            }
         }
         dueFault("no comma", "s1", 2);
         dueFault("no comma, but a figure", "s12", 2);

@@ -7,8 +7,10 @@ import java.util.Random;
 
 /** All promises: runs of up to 512 calls, by chance but always the same, against Model. */
 public final class RandomTest {
-    private static final int RUNS = 400;
+    private static final int RUNS = 500;
     private static final int CALLS = 512;
+    /** So many calls probe() makes. */
+    private static final int PROBING = 256;
     private static final int[] EDGES = {-2147483648, -2147483647, -101, -17, -3, -2, -1, 0, 1, 2, 3, 4, 5, 6, 7, 8, 9, 11, 12,
         13, 16, 17, 20, 60, 127, 128, 1000, 1001, 1000000, 2147483647};
     private static final String SIGNS = "gyspwrf0123456789,;()2(2(3;;)) x";
@@ -26,7 +28,12 @@ public final class RandomTest {
 
     public static void main(String[] args) throws ReflectiveOperationException {
         for (int run = 0; run < RUNS; run++) {
-            new RandomTest(run).go();
+            RandomTest test = new RandomTest(run);
+            // Every other run ends with all that can be asked of what it left behind.
+            test.go(run % 2 == 0 ? CALLS : CALLS - PROBING);
+            if (run % 2 != 0) {
+                test.probe();
+            }
         }
         Due.end();
     }
@@ -60,8 +67,36 @@ public final class RandomTest {
         Due.due("run " + run + ", call " + calls + " " + m.getName() + List.of(args), got, want);
     }
 
-    private void go() throws ReflectiveOperationException {
-        while (calls < CALLS) {
+    private void probe() throws ReflectiveOperationException {
+        probeState();
+        call("read");
+        probeState();
+        call("undo");
+        probeState();
+    }
+
+    private void probeState() throws ReflectiveOperationException {
+        for (int n = 0; n < 8; n++) {
+            call("of", n, 6);
+            call("film", n, 0);
+            call("why", n / 2, n % 2);
+        }
+        for (int n = 0; n < 5; n++) {
+            call("count", n);
+            call("light", 0, n);
+        }
+        for (int n = 0; n < 3; n++) {
+            for (int i = -1; i < 4; i++) {
+                call("rack", n, i);
+            }
+            for (int i = 0; i < 12; i++) {
+                call("get", n, i);
+            }
+        }
+    }
+
+    private void go(int most) throws ReflectiveOperationException {
+        while (calls < most) {
             switch (chance.nextInt(24)) {
                 case 0:
                     call("lamp", lampArgs());
